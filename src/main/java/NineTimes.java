@@ -717,6 +717,8 @@ public final class NineTimes {
         private final int[] ownWords;
         private int next;
         int kind;
+        int firstByte;
+        // Where a FAULT of what is read is told: its first byte, but a 7th letter or a 5th digit itself.
         int place;
         int ownWord;
         int name;
@@ -768,6 +770,7 @@ public final class NineTimes {
                 next++;
             }
             boolean sideBySide = needsBlank && next == before;
+            firstByte = next;
             place = next;
             ownWord = NONE;
             value = tape.octetAt(next);
@@ -876,17 +879,25 @@ public final class NineTimes {
         }
 
         private boolean wrong(int kind) {
+            return wrongAt(kind, scanner.place);
+        }
+
+        private boolean wrongAt(int kind, int place) {
             faultKind = kind;
-            faultPlace = scanner.place;
+            faultPlace = place;
             return false;
         }
 
         private boolean readStatement() {
+            // The 81st is one too many whatever it is, even where it is no STATEMENT or has a 7th letter.
+            if (war.statements >= MOST_STATEMENTS) {
+                return wrongAt(FAULT_MANY, scanner.firstByte);
+            }
             int word = scanner.kind == READ_WORD ? scanner.ownWord : NONE;
             if (!beginsStatement(word)) {
                 return wrong(FAULT_TEXT);
             }
-            if (war.statements >= MOST_STATEMENTS || isOneTooMany(word)) {
+            if (isOneTooMany(word)) {
                 return wrong(FAULT_MANY);
             }
             scanner.advance();
