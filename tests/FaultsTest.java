@@ -113,6 +113,8 @@ public final class FaultsTest {
         fault(1, "post 1000^0");
         fault(1, "county a quota 0000^0");
         fault(1, "likes 1+1234^5");
+        fault(1, "likes 0040^1");
+        fault(1, "likes 1 0059^1");
         fault(1, "county 1234^5");
         good("county a quota 0020 pays 0999 guard 0009;post 0000;", 2);
         good("likes 9999+0000;", 1);

@@ -442,6 +442,16 @@ public final class PromisesTest {
         Check.due("filled now", z.filled(), 0);
         Check.due("behind 80 WEEKS at most", caughtBehind(79), 80);
         Check.due("not behind 81", caughtBehind(80), NONE);
+        Check.due("filled behind 80 WEEKS at most", filledBehind(79), 80);
+        Check.due("not filled behind 81", filledBehind(80), NONE);
+    }
+
+    /** A man on the ROAD for so many WEEKS, who enlists then. */
+    private static int filledBehind(int weeks) {
+        NineTimes x = Check.of("county a quota 1 pays 0 guard 0;man m at a signs 0;");
+        Check.tape(x, Check.with(Check.with(Check.image(x), 7, 1), 8, weeks));
+        Check.due("on", x.on(), true);
+        return x.filled();
     }
 
     /** A man who is FREE, and known from so many WEEKS from now on. */
