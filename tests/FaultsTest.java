@@ -20,7 +20,7 @@ public final class FaultsTest {
     }
 
     /** The place is where the ^ stands. */
-    private static void fault(int kind, String marked) {
+    static void fault(int kind, String marked) {
         int place = marked.indexOf('^');
         String text = marked.substring(0, place) + marked.substring(place + 1);
         NineTimes x = new NineTimes();
@@ -31,7 +31,7 @@ public final class FaultsTest {
         Check.due("fault(2)", x.fault(2), -1);
     }
 
-    private static void good(String text, int statements) {
+    static void good(String text, int statements) {
         NineTimes x = new NineTimes();
         Check.due("war of " + text, Check.war(x, text), statements);
         Check.due("fault of " + text, x.fault(0), 0);
@@ -194,7 +194,7 @@ public final class FaultsTest {
     }
 
     /** Whether the TEST holds for one who has enlisted once: names 1, purse 7, WEEK 1, guard 3, pays 7. */
-    private static boolean holds(String test) {
+    static boolean holds(String test) {
         NineTimes x = Check.of("county a quota 1 pays 7 guard 3;county b quota 0 pays 0 guard 0;rail a to b weeks 1;"
             + "man m at a signs 0;jumps " + test + ";");
         x.weeks(2);
