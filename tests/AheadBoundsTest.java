@@ -26,6 +26,7 @@ public final class AheadBoundsTest {
         luredByLikes();
         bestBySteps();
         bestOfLikeOnes();
+        bestOfAllQuotas();
         bestOfPayFromNowOn();
         marksFewest();
         staffedNoMoreThan();
@@ -316,6 +317,12 @@ public final class AheadBoundsTest {
             // where he is, and without a way, by nothing
             due("LURED to " + county, x.lured(0, county), due[county]);
         }
+        // of all COUNTIES but his, the first and the last one, too
+        NineTimes w = Check.of(text.replace("at a", "at c").replace("pays 999", "pays 50"));
+        int[] fromC = {40, 51, NONE, 51, NONE};
+        for (int county = 0; county < 5; county++) {
+            due("LURED from c to " + county, w.lured(0, county), fromC[county]);
+        }
         for (int is = 1; is <= 4; is++) {
             NineTimes y = Check.of(text);
             Check.set(y, 23, is, 24, is == 1 ? 1 : 0);
@@ -372,6 +379,18 @@ public final class AheadBoundsTest {
         NineTimes z = alone(9, 500, "jumps pays>37 and pays<74;post 9;");
         due("between two steps", z.best(0, 3, 0), 0);
         due("what is left", z.best(0, 3, 1), 8);
+    }
+
+    /** None of the largest quota goes; all of the least one goes by a later step. */
+    private static void bestOfAllQuotas() {
+        NineTimes x = Check.of(Check.county("a", 20, 500, 0));
+        due("none goes", x.best(0, 40, 0), 0);
+        due("all 20 are left", x.best(0, 40, 1), 20);
+        NineTimes y = Check.of(Check.county("a", 0, 0, 0) + Check.county("b", 1, 500, 0) + Check.county("c", 1, 0, 0)
+            + Check.rail("a", "b", 1) + Check.rail("a", "c", 1) + Check.man("m", "a", 1));
+        due("none is left by the 14th step", y.best(2, 3, 0), 518);
+        due("none is left", y.best(2, 3, 1), 0);
+        due("too early", y.best(2, 2, 1), 1);
     }
 
     /** Paid from now on: what it pays now stays. */

@@ -234,12 +234,16 @@ public final class CallsBoundsTest {
         y.weeks(2);
         due("he JUMPS", y.man(0, 1), 0);
         due("post 2", y.known(0, 0), 1);
-        Check.tape(y, Check.county("a", 0, 0, 0) + Check.county("b", 0, 5, 0) + Check.county("c", 0, 9, 0)
+        Check.tape(y, Check.county("a", 1, 0, 0) + Check.county("b", 0, 5, 0) + Check.county("c", 0, 9, 0)
             + Check.rail("a", "b", 1) + Check.rail("a", "c", 1) + Check.man("m", "a", 1));
         due("a third WAR", y.war(), 6);
+        due("two RAILS", y.has(1), 2);
         due("no LETTER", y.known(0, 0), NONE);
-        y.weeks(1);
+        y.weeks(2);
+        due("he JUMPS", y.man(0, 1), 1);
         due("by what it pays", y.man(0, 0), 2);
+        due("post 2", y.known(0, 0), 1);
+        menAsAtFirst();
         Check.tape(y, "");
         due("the empty WAR", y.war(), 0);
         for (int what = 0; what <= 11; what++) {
@@ -247,6 +251,25 @@ public final class CallsBoundsTest {
         }
         due("no COUNTY", y.county(0, 0), NONE);
         due("no MAN", y.man(0, 0), NONE);
+    }
+
+    /** Whatever they were: on the ROAD, in the TRAIN, CAUGHT, at the FRONT. */
+    private static void menAsAtFirst() {
+        String text = Check.county("a", 5, 7, 0) + Check.county("b", 0, 9, 0) + Check.rail("a", "b", 3);
+        for (int k = 0; k < 4; k++) {
+            text += Check.man("m" + (char) ('a' + k), "a", k);
+        }
+        NineTimes x = Check.of(text);
+        int man = 2 + 8;
+        Check.set(x, man + 1, 1, man + 2, 9, man, 1, man + 8 + 1, 2, man + 16 + 1, 3, man + 24 + 1, 4, man + 24 + 3, 9,
+            man + 24 + 4, 39);
+        Check.tape(x, text);
+        due("the WAR again", x.war(), 7);
+        for (int m = 0; m < 4; m++) {
+            for (int what = 0; what < 6; what++) {
+                due("man(" + m + ", " + what + ") as at first", x.man(m, what), what == 5 ? m : 0);
+            }
+        }
     }
 
     /** Promise 5. */

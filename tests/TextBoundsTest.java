@@ -19,6 +19,7 @@ public final class TextBoundsTest {
         fromTheLeftOn();
         division();
         limitsOfResults();
+        lessAndMore();
         signsOfTests();
         lengthOfNames();
         lettersOfNames();
@@ -213,6 +214,12 @@ public final class TextBoundsTest {
             "0-1000*1000-9999+1=0-999*1001", "0-1000*1000<0-999*1001", "(0-9999)*9999*(0-9999)=1000*1000");
     }
 
+    /** min ( SUM , SUM ) ; max ( SUM , SUM ). */
+    private static void lessAndMore() {
+        holds("min(3,4)=3", "min(4,3)=3", "min(3,3)=3", "max(3,4)=4", "max(4,3)=4", "max(3,3)=3", "min(0-3,0-4)=0-4",
+            "max(0-3,0-4)=0-3", "min(0,0-1)<max(0,0-1)");
+    }
+
     private static void signsOfTests() {
         holds("1<2", "0-2<0-1", "2>1", "2=2", "0=0-0");
         holdsNot("2<2", "3<2", "2>2", "1>2", "1=2", "2=1");
@@ -322,6 +329,9 @@ public final class TextBoundsTest {
             due("its place", x.fault(1), blank ? -1 : c >= 'a' && c <= 'z' ? 0 : 4);
             due("its FAULT", x.fault(0), blank ? 0 : 1);
         }
+        FaultsTest.good(" ".repeat(1600), 0);
+        FaultsTest.good("\n".repeat(1593) + "post 1;", 1);
+        FaultsTest.good("post" + " ".repeat(1594) + "1;", 1);
         String text = "county a quota 1 pays 2 guard 3 ; likes ( guard + 2 ) * min ( 3 , 4 ) ; jumps [ not all ] ; ";
         FaultsTest.good(text, 3);
         FaultsTest.good(text.replace(' ', '\n'), 3);
@@ -441,6 +451,20 @@ public final class TextBoundsTest {
                 fault(1, six + kinds[last].replace("^", "") + "^");
                 fault(5, seven + kinds[last] + "1");
             }
+        }
+        // wherever it stands
+        for (String ahead : new String[] {"", "all or ", "all and ", "1=1 or ", "1<2 and all or "}) {
+            fault(5, "jumps " + ahead + "[[[[[[[^[all");
+            fault(5, "jumps " + ahead + "(((((((^(1");
+            fault(5, "jumps " + ahead + "1=(((((((^(1");
+            fault(5, "jumps " + ahead + "if([[[[[[^[all");
+        }
+        for (String ahead : new String[] {"1+", "1-", "1*", "1/", "1%", "1+2*", "guard-"}) {
+            fault(5, "likes " + ahead + "(((((((^(1");
+            fault(5, "likes min(1," + ahead + "((((((^(1");
+            fault(5, "likes max(" + ahead + "((((((^(1");
+            fault(5, "likes if(all,1," + ahead + "((((((^(1");
+            fault(5, "likes if(all," + ahead + "((((((^(1");
         }
         fault(5, "likes 1+(min(2,(if([[not ^[all]");
         fault(5, "likes 1+(min((2),(if([((3))=4],5,(if(all,(^(6");

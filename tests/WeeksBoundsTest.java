@@ -40,6 +40,7 @@ public final class WeeksBoundsTest {
         drawsAheadOfTheWeek();
         drawWrapsAround();
         keptFourKinds();
+        keptOfTheLastWeek();
         keptLastSixty();
         lastTwentyUndone();
         Check.finish();
@@ -474,6 +475,26 @@ public final class WeeksBoundsTest {
         y.weeks(2);
         due("how many", y.has(9), 2);
         isKept(y, 1, 1, 1, 1, 4);
+    }
+
+    /** The largest WEEK, MAN, COUNTY and kind of all. */
+    private static void keptOfTheLastWeek() {
+        StringBuilder text = new StringBuilder();
+        for (int k = 0; k < 7; k++) {
+            text.append(Check.county("c" + (char) ('a' + k), 1, 0, 9));
+        }
+        for (int k = 0; k < 6; k++) {
+            text.append(Check.man("m" + (char) ('a' + k), "c" + (char) (k == 0 ? 'a' : 'b' + k), k));
+        }
+        NineTimes x = Check.of(text + "jumps not all;");
+        Check.set(x, 0, 997 / 256, 1, 997 % 256);
+        x.weeks(1);
+        x.weeks(1);
+        due("twelve", x.has(9), 12);
+        for (int k = 0; k < 12; k++) {
+            int man = k % 6;
+            isKept(x, k, 997 + k / 6, man, man == 0 ? 0 : man + 1, k < 6 ? 1 : 4);
+        }
     }
 
     /** The last 60 are told: five men do eleven things each, the sixth one comes seven WEEKS later. */
