@@ -299,6 +299,9 @@ public final class TextBoundsTest {
         // whatever may stand there
         fault(1, "1234^5");
         fault(1, "county 1234^5");
+        fault(1, A + "man m at 1234^5");
+        fault(1, A + "rail 1234^5");
+        fault(1, A + "rail a to 1234^5");
         fault(1, "post 1 1234^5");
         fault(1, "likes guard 1234^5");
         fault(4, "post ^1234;");
@@ -348,6 +351,11 @@ public final class TextBoundsTest {
         fault(1, "county a^1 quota");
         fault(1, AB + "rail a to b weeks^1;");
         fault(1, A + "man m at a signs^1;");
+        fault(1, A + "county^1");
+        fault(1, A + "man^1");
+        fault(1, A + "man m at^1");
+        fault(1, A + "rail^1");
+        fault(1, A + "rail a to^1");
         fault(1, "jumps 1=1^or all;");
         fault(1, "jumps 1=1^and all;");
         fault(1, "jumps not^1=1;");
