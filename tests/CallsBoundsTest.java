@@ -151,10 +151,13 @@ public final class CallsBoundsTest {
         NineTimes x = new NineTimes();
         due("end(0) of none", one(x.end(0)), 1);
         Check.refused("end(1) of none", x, 0, 0, y -> one(y.end(1)));
-        Check.tape(x, "post 1;post 2;");
         for (int n : new int[] {-1, Integer.MIN_VALUE, 15, 16, 20, 1600, Integer.MAX_VALUE}) {
-            Check.refused("end(" + n + ") of 14", x, 0, 0, y -> one(y.end(n)));
+            NineTimes z = lived();
+            Check.tape(z, "post 1;post 2;");
+            Check.refused("end(" + n + ") of 14", z, 0, 0, y -> one(y.end(n)));
+            due("14 are there", one(z.end(14)), 1);
         }
+        Check.tape(x, "post 1;post 2;");
         due("end(14) of 14", one(x.end(14)), 1);
         due("end(7) of 14", one(x.end(7)), 1);
         due("end(8) of 7", one(x.end(8)), 0);
