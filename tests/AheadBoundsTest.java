@@ -149,6 +149,16 @@ public final class AheadBoundsTest {
         isRound("from a", x, 15, 4, 0, 1);
         Check.set(x, 10, 1);
         isRound("from b", x, 15, 4, 1, 0);
+        // each MAN by his own COUNTY and by his own signs
+        NineTimes w = Check.of(two(Check.man("n", "b", 2) + Check.man("o", "b", 3)));
+        w.tell(2, 0);
+        int[][] due = {{0, 1, 15, 4}, {1, 0, 15, 4}, {1, NONE, 5, 0}};
+        for (int man = 0; man < 3; man++) {
+            due("the first of " + man, w.round(man, 0), due[man][0]);
+            due("the second of " + man, w.round(man, 1), due[man][1]);
+            due("what he gets, of " + man, w.round(man, 4), due[man][2]);
+            due("when he comes, of " + man, w.round(man, 5), due[man][3]);
+        }
         // no way there: that COUNTY alone
         NineTimes y = Check.of(Check.county("a", 1, 10, 0) + Check.county("b", 1, 500, 0) + Check.man("m", "a", 1));
         isRound("no way", y, 10, 0, 0);
@@ -336,10 +346,10 @@ public final class AheadBoundsTest {
     private static void luredByLikes() {
         String three = Check.county("a", 0, 0, 0) + Check.county("b", 3, 5, 0) + Check.county("c", 2, 5, 0)
             + Check.rail("a", "b", 4) + Check.rail("a", "c", 9) + Check.man("m", "a", 1);
-        String[] likes = {"likes pays-far;", "likes 0-pays;", "likes quota;", "likes pays/100;", "likes if(pays=999,1,0);",
+        String[] likes = {"likes pays-far;", "likes 0-pays;", "likes quota;", "likes 0-quota;", "likes quota*10+pays;", "likes pays/100;", "likes if(pays=999,1,0);",
             "likes if(pays=0,1,0);", "likes pays%10;", "likes 5;", "likes 0-9999*9999-pays;"};
-        int[] b = {0, 0, 0, 0, 0, 0, 5, 0, 0};
-        int[] c = {11, 0, NONE, 100, 999, 0, 6, NONE, NONE};
+        int[] b = {0, 0, 0, NONE, 0, 0, 0, 0, 5, 0, 0};
+        int[] c = {11, 0, NONE, 0, 16, 100, 999, 0, 6, NONE, NONE};
         for (int k = 0; k < likes.length; k++) {
             NineTimes x = Check.of(three + likes[k]);
             due("LURED to b by " + likes[k], x.lured(0, 1), b[k]);

@@ -329,6 +329,13 @@ public final class WeeksBoundsTest {
     private static void goesOnByWhatIsSoThen() {
         String three = Check.county("a", 1, 7, 5) + Check.county("b", 1, 0, 3) + Check.county("c", 4, 9, 2)
             + Check.rail("a", "b", 2) + Check.rail("b", "c", 1) + Check.man("m", "a", 1) + Check.man("n", "b", 2);
+        String[] other = {"quota=4", "guard=2", "pays=9", "far=3"};
+        for (String of : other) {
+            // c where it holds, else b
+            NineTimes x = Check.of(three + "likes if(" + of + ",2,1);");
+            x.weeks(2);
+            isMan("he goes by " + of, x, 0, 2, ROAD, 3, 1, 7);
+        }
         String[] likes = {"quota=0", "guard=3", "pays=0", "far=2", "names=0", "purse=0", "week=0", "quota=1", "far=3",
             "names=1", "purse=7", "week=1"};
         int[] due = {1, 1, 1, 1, 2, 2, 2, 2, 2, 1, 1, 1};
